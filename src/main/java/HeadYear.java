@@ -25,7 +25,6 @@ public final class HeadYear {
     private final Folk trial = new Folk();
     private final Folk imageFolk = new Folk();
     private final Diary diary = new Diary();
-    private final Diary imageDiary = new Diary();
     private final Buyings buyings = new Buyings();
     private final Seasons seasons = new Seasons();
     private final Moves moves = new Moves();
@@ -407,7 +406,6 @@ public final class HeadYear {
             return NONE;
         }
         imageFolk.copyFrom(folk);
-        imageDiary.copyFrom(diary);
         imaged = true;
         return folk.years;
     }
@@ -417,7 +415,8 @@ public final class HeadYear {
             return NONE;
         }
         folk.copyFrom(imageFolk);
-        diary.copyFrom(imageDiary);
+        // No YEAR that the IMAGE has is written again while it stands: its DIARY begins this one.
+        diary.years = folk.years;
         buyings.count = 0;
         return folk.years;
     }
@@ -1208,12 +1207,6 @@ public final class HeadYear {
                 heads[years * ROW + family] = is ? folk.heads[family] : 0;
             }
             years++;
-        }
-
-        void copyFrom(Diary other) {
-            years = other.years;
-            System.arraycopy(other.level, 0, level, 0, years * ROW);
-            System.arraycopy(other.heads, 0, heads, 0, years * ROW);
         }
 
         int levelIn(int year, int family) {

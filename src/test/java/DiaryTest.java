@@ -9,6 +9,7 @@ final class DiaryTest {
         refused();
         image();
         imageKeeps();
+        imageOfHuts();
         Check.finish();
     }
 
@@ -53,6 +54,12 @@ final class DiaryTest {
         Check.due("leap up", x.leap(0), 7);
         Check.due("met thrice", x.met(0, 1, 0), 3);
         Check.due("the latest", x.met(0, 1, 1), 3);
+        x = way(7, 0, 1);
+        Check.due("the first leap", x.leap(0), 7);
+        x = way(0, 3, 2);
+        Check.due("the leap between", x.leap(0), 3);
+        x = way(5, 5, 2);
+        Check.due("the last leap", x.leap(0), 3);
         x = way(4, 5, 3, 6, 2);
         Check.due("climb(0, 0)", x.climb(0, 0), 3);
         Check.due("climb(0, 1)", x.climb(0, 1), 2);
@@ -224,5 +231,30 @@ final class DiaryTest {
         x.undo();
         x.law(HeadYear.NONE);
         Check.due("the draws as they were", x.winters(1), next);
+    }
+
+    private static void imageOfHuts() {
+        HeadYear x = Check.valley("l;l;k b0;k b0;k a1 b0");
+        x.buy(0, 1);
+        x.winters(1);
+        x.image();
+        x.buy(1, 1);
+        x.buy(0, -1);
+        x.buy(2, -1);
+        x.winters(2);
+        Check.due("climb to level 1", x.diary(1, 2, 0), 1);
+        x.back();
+        Check.family(x, 0, 4, 1, 1);
+        Check.family(x, 1, 4, 0, 1);
+        Check.family(x, 2, 4, 1, 0);
+        Check.due("one year", x.leanest(0), 0);
+        Check.due("its level", x.diary(0, 0, 0), 1);
+        Check.due("its heads", x.diary(0, 0, 1), 4);
+        Check.due("no second year", x.diary(0, 1, 0), HeadYear.HIDDEN);
+        Check.due("no climb beyond", x.climb(1, 0), 0);
+        Check.due("no leap beyond", x.leap(0), 0);
+        Check.due("met in the first year alone", x.met(0, 2, 0), 1);
+        x.winters(1);
+        Check.due("written anew", x.diary(0, 1, 0), 1);
     }
 }

@@ -102,6 +102,12 @@ final class FaultTest {
         valley("k", 1);
         valley("l;l;ka2", 7);
         valley("l;l;ka1", -1);
+        HeadYear x = Check.valley("l;l;l;ka2");
+        Check.feed(x, "l;l;l;ka2");
+        Check.due("three levels", x.fault(0), -1);
+        x.end(0);
+        Check.feed(x, "l;l;ka2");
+        Check.due("two levels behind three", x.fault(0), 7);
         valley("ka1;l;l", -1);
         valley("ka2;l;l", 7);
         valley("l;l;k;k", -1);

@@ -2,6 +2,7 @@
 final class LawTest {
     public static void main(String[] args) {
         whichHolds();
+        askedFirst();
         sums();
         conditions();
         clauses();
@@ -34,6 +35,21 @@ final class LawTest {
         x.law(HeadYear.NONE);
         x.winters(1);
         Check.due("none: COUNTED less DEAD", x.family(0, 1), 4);
+    }
+
+    /** What was read for a FAULT alone is not in the LAW told then. */
+    private static void askedFirst() {
+        HeadYear x = Check.valley("l d0;l d0;l d0;k b0");
+        Check.feed(x, "y:1");
+        x.fault(1);
+        x.end(2);
+        x.fault(1);
+        Check.feed(x, "2");
+        x.fault(1);
+        Check.due("text(1)", x.text(1), 0);
+        x.law(0);
+        x.winters(1);
+        Check.due("by the law as told", x.family(0, 1), 2);
     }
 
     /** The LEVEL to which a FAMILY of 4 HEADS without births and deaths goes from LEVEL 0 by a law. */

@@ -4,6 +4,7 @@ final class MovesTest {
         waiting();
         most();
         leastBits();
+        lowestLevel();
         needs();
         needsOwnLevel();
         fewest();
@@ -53,6 +54,16 @@ final class MovesTest {
         Check.due("most(0)", x.most(0), 2);
         Check.due("of {0, 3}, {1, 3} the least bits", x.most(1), 9);
         Check.due("needs(3)", x.needs(3), 1);
+    }
+
+    /** Two want the lowest level, one of it wants away: no more than one of them can go there. */
+    private static void lowestLevel() {
+        HeadYear x = wanting("l h2;l h2;l h1;k;k;k a1;k a1;k a2", 0, 1, -1, -1, -1);
+        Check.due("waiting", x.waiting(), 16 + 8);
+        x = wanting("l h1;l h3;l h1;k;k a1;k a1;k a1;k a2", 1, 1, -1, -1);
+        Check.due("waiting", x.waiting(), 15);
+        Check.due("most(0)", x.most(0), 2);
+        Check.due("most(1)", x.most(1), 5);
     }
 
     private static void needs() {

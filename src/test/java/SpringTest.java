@@ -127,6 +127,16 @@ final class SpringTest {
         Check.family(x, 1, 4, 2, 0, 0, 2);
         Check.family(x, 2, 4, 0, 0, 0, 0);
 
+        // Each takes the very hut of the next.
+        x = Check.valley("l h2;l h3;l h4;k;k a1;k a2;k;k a1;k a2;k a1;k a2;k a2");
+        x.buy(3, 1);
+        x.buy(6, 1);
+        x.buy(8, -2);
+        Check.due("a ring of three", x.spring(), 3);
+        Check.due("3 in the hut of 6", x.hut(1, 2), 3);
+        Check.due("6 in the hut of 8", x.hut(2, 3), 6);
+        Check.due("8 in the hut of 3", x.hut(0, 1), 8);
+
         // The lowest that wants away is asked at each level: 2 stays, 1 is in the ring; huts change owners.
         x = Check.valley("l h2;l h2;k;k;k a1;k a1");
         x.buy(1, 1);

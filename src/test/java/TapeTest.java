@@ -63,6 +63,14 @@ final class TapeTest {
         Check.due("two more than 159", x.feed(0x20200000, 0, 0, 0, 0), HeadYear.NONE);
         Check.due("what is refused feeds nothing", x.count(3), 159);
         Check.due("one more than 159", x.feed(0, 0, 0, 0, 0x20), 160);
+        for (int word = 0; word < 5; word++) {
+            for (int shift = 0; shift < 32; shift += 8) {
+                int[] w = new int[5];
+                w[word] = 0x20 << shift;
+                Check.due("each byte counts", x.feed(w[0], w[1], w[2], w[3], w[4]), HeadYear.NONE);
+            }
+        }
+        Check.due("160 bytes stay", x.count(3), 160);
     }
 
     private static void end() {

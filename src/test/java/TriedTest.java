@@ -134,6 +134,14 @@ final class TriedTest {
         x.law(0);
         Check.due("of two the lower", x.advice(0, 9, 10, 0), -1);
 
+        for (int down = 1; down <= 3; down++) {
+            x = Check.valley("l d0 f99;l d" + (down < 3 ? 0 : 50) + " f99;l d" + (down < 2 ? 0 : 50)
+                    + " f99;l d50 f99;l d50 f99;k p12 b0 a3");
+            Check.tell(x, 1, "y:0");
+            x.law(0);
+            Check.due("down to the nearest safe one", x.advice(0, 9, 10, 0), -down);
+        }
+
         // By the law that holds: the one takes it up by itself, the other does not.
         x = Check.valley("l d50 f99;l d0 f99;k p12 b0");
         Check.tell(x, 1, "y:1");

@@ -134,6 +134,19 @@ final class ValleyTest {
         x.winters(1);
         Check.due("to the lowest by law 0", x.family(0, 1), 0);
 
+        // DEAD, DEBT, what is BOUGHT and HUSHED are gone with the valley ahead.
+        HeadYear y = Check.valley("l d50 h1 f99;l d0 h1;k p12 b0;k a1 b0");
+        Check.tell(y, 1, "y:1");
+        y.law(0);
+        y.winters(1);
+        Check.due("DEAD", y.family(0, 6) > 0, true);
+        Check.due("DEBT", y.family(0, 3), 1);
+        y.buy(0, 1);
+        y.hush(0, true);
+        Check.tell(y, 0, "l;l;k;k");
+        Check.family(y, 0, 4, 0, 0, 0, 0, 0, 0, 0, 0, 0);
+        Check.family(y, 1, 4, 0, 1, 0, 0, 0, 0, 0, 0, 0);
+
         for (int seed = 0; seed < 12; seed++) {
             HeadYear one = Check.valley("l d0;l d0;k b50 t50");
             one.seed(seed);
@@ -197,5 +210,18 @@ final class ValleyTest {
         Check.due("count(8)", x.count(8), HeadYear.HIDDEN);
         Check.due("count(-1)", x.count(-1), HeadYear.HIDDEN);
         Check.due("HEADS as many as FOOD", Check.valley("l f4;l;k").hungry(0), 0);
+        x = Check.valley("l;l h1;l f4;k p5;k a1 p6;k p5;k a2 p5");
+        Check.due("full(), not the lowest", x.full(), 3);
+        x = Check.valley("l;l h1;l h1;l;k a1 p5;k a2 p6;k p5;k a3 p4;k a3 p12");
+        Check.due("full(), the middle", x.full(), 14);
+        int[] order = {4, 1, 0, 2, 3};
+        for (int i = 0; i < order.length; i++) {
+            Check.due("rank(" + i + ")", x.rank(i), order[i]);
+        }
+        x = Check.valley("l;l h4;k a1;k a1");
+        Check.due("full() of none", x.full(), 0);
+        Check.due("hungry of none", x.hungry(0), 0);
+        Check.due("hungry of none", x.hungry(1), 0);
+        Check.due("hungry, not the lowest", Check.valley("l;l f3;k a1").hungry(0), 2);
     }
 }

@@ -51,6 +51,11 @@ final class WinterTest {
             x.winters(1);
             Check.due("BORN by seed " + seed, x.family(0, 5), born);
         }
+        for (int birth = 1; birth < 100; birth++) {
+            x = Check.valley("l d0;l d0;k b" + birth);
+            x.winters(1);
+            Check.due("seed 0 at first, BIRTH " + birth, x.family(0, 5) > 0, Check.draws(0, 1)[0] < birth);
+        }
         long big = 0x9E3779B97F4A7C15L;
         x = Check.valley("l d0;l d0;k b50 t50");
         x.seed(big);
@@ -135,6 +140,21 @@ final class WinterTest {
         x.winters(1);
         Check.due("GONE for good", x.family(0, 0), 0);
 
+        // A DEBT is gone with who had it.
+        for (int seed = 0; seed < 20; seed++) {
+            x = Check.valley("l d50 f99 h1;l d0 h1;k p1 b0;k a1 b0");
+            Check.tell(x, 1, "y:1");
+            x.law(0);
+            x.buy(0, 1);
+            x.spring();
+            x.seed(seed);
+            x.winters(1);
+            boolean left = Check.draws(seed, 2)[1] >= 50;
+            Check.due("HEADS by seed " + seed, x.family(0, 0), left ? 1 : 0);
+            Check.due("DEBT by seed " + seed, x.family(0, 3), left ? 1 : 0);
+            Check.due("WANT by seed " + seed, x.family(0, 4), left ? 1 : -1);
+        }
+
         // All GONE: winters go on without heads.
         x = Check.valley("l d50 f99;l;k p1 b0");
         x.seed(deadlySeed());
@@ -160,9 +180,9 @@ final class WinterTest {
 
     private static void finding() {
         // Twins, hushed: four COUNTED if they are found, none else; five levels tell which.
-        for (int seed = 0; seed < 100; seed++) {
+        for (int seed = 0; seed < 1000; seed++) {
             int found = Check.draws(seed, 7)[6];
-            HeadYear x = Check.valley("l d0;l d0;l d0;l d0;l d0;k b100 t100");
+            HeadYear x = Check.valley("l d0;l d0;l d0;l d0;l d0;l d0;l d0;k b100 t100");
             x.seed(seed);
             x.hush(0, true);
             x.winters(1);
@@ -186,6 +206,11 @@ final class WinterTest {
         x.set(0, 100);
         x.winters(1);
         Check.due("always found", x.family(0, 1), 2);
+        x = Check.valley("l d0;l d0;l d0;l d0;k b100 t0");
+        x.hush(0, true);
+        x.set(0, 100);
+        x.winters(1);
+        Check.due("one born counts two", x.family(0, 1), 2);
     }
 
     private static void bounds() {
