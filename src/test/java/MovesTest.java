@@ -8,6 +8,7 @@ final class MovesTest {
         needs();
         needsOwnLevel();
         fewest();
+        fullest();
         Check.finish();
     }
 
@@ -90,6 +91,19 @@ final class MovesTest {
         HeadYear x = wanting("l h1;l h2;l h1;k;k a1;k a1;k a2", 1, 1, -1);
         Check.due("to its own level by one", x.needs(0), 1);
         Check.due("down by one", x.needs(2), 1);
+    }
+
+    /** Eight LEVELS, ten FAMILIES, a ring of the upper four but for 6 at LEVEL 5, who leads nowhere. */
+    private static void fullest() {
+        HeadYear x = wanting("lh2;lh1;lh1;lh1;lh1;lh2;lh1;lh1;k;k;ka1;ka2;ka3;ka4;ka5;ka5;ka6;ka7",
+                0, 0, 0, 0, 0, 1, -3, 1, 1, -3);
+        Check.due("full()", x.full(), 255);
+        Check.due("waiting", x.waiting(), 992);
+        Check.due("most(0)", x.most(0), 4);
+        Check.due("most(1)", x.most(1), 928);
+        Check.due("needs(9) by 5, 7, 8", x.needs(9), 3);
+        Check.due("needs(5) by 7, 8, 9", x.needs(5), 3);
+        Check.due("needs(6)", x.needs(6), HeadYear.NONE);
     }
 
     /** Of two ways the shorter one: over level 2 to level 0 by two, over level 1 straight by one. */

@@ -7,10 +7,12 @@ final class StormTest {
         Integer.MAX_VALUE, Integer.MIN_VALUE, 0x6C3B6C3B, 0x6B000000, 0x793A6200};
     private static final String[] TEXTS = {"l;l;k;k", "l h1;l h1;l h1 s1;k b99 t99;k a1 p12;k a2 d",
         "l f0 d50;l h4;k p12;k p12;ka1;ka1;ka1;ka1", "y:b-d", "y:!(b>1)&[h-9]/0<0?9999*9999;y:o-9999",
-        "y:((((((1=1))))))?[[[[[[b]]]]]]", "y:(((((((1=1", "y:!!!!!!!", "\u00ff\u0080", ""};
+        "y:((((((1=1))))))?[[[[[[b]]]]]]", "y:(((((((1=1", "y:!!!!!!!", "\u00ff\u0080", "",
+        "l h4;l h4;l h4;l;l;l;l;l f0 d50;k;k;k;k;ka1;ka1;ka1;ka1;ka2;ka7 p12 b100 t100",
+        "l h4 d50;l h4;l h4;l;l;l;l s1;l;k p12;k p1 b0;k b90;k;ka1;ka1;ka1;ka1;ka2;ka2", "y:y"};
 
     public static void main(String[] args) {
-        for (int run = 0; run < 150; run++) {
+        for (int run = 0; run < 250; run++) {
             Random random = new Random(run);
             HeadYear x = new HeadYear();
             for (int i = 0; i < 512; i++) {

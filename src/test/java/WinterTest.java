@@ -229,6 +229,11 @@ final class WinterTest {
         Check.due("a 61st year", x.winters(1), HeadYear.NONE);
         Check.due("60 years", x.count(4), 60);
         Check.due("the last year of the diary", x.diary(0, 59, 1), 4);
+        Check.due("climb in 60 years", x.climb(0, 0), 0);
+        Check.due("leap in 60 years", x.leap(0), 0);
+        Check.due("leanest of 60 years", x.leanest(0), 0);
+        Check.due("image of 60 years", x.image(), 60);
+        Check.due("back to 60 years", x.back(), 60);
         Check.due("tried beyond 60 years", x.tried(-1, 20, 10, 0), 40);
     }
 }
