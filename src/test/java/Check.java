@@ -21,6 +21,13 @@ final class Check {
         due(what, got ? 1 : 0, want ? 1 : 0);
     }
 
+    static void due(String what, String got, String want) {
+        if (!got.equals(want)) {
+            wrong++;
+            System.out.println(what + ":\n  is  " + got + "\n  due " + want);
+        }
+    }
+
     static void finish() {
         if (wrong != 0) {
             System.out.println(wrong + " answers are not as due");

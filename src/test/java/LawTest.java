@@ -4,6 +4,8 @@ final class LawTest {
         whichHolds();
         askedFirst();
         sums();
+        withinAMillion();
+        dividing();
         conditions();
         clauses();
         letters();
@@ -91,7 +93,70 @@ final class LawTest {
         holds("0009=9", true);
     }
 
+    /** "Behind each sign numbers are within -1,000,000 .. 1,000,000": each sign from both sides of both ends. */
+    private static void withinAMillion() {
+        String[] ends = {"", "0-"};
+        for (String minus : ends) {
+            String other = minus.isEmpty() ? "0-" : "";
+            String most = "[" + minus + "1000*1000]";
+            String less = "[" + minus + "[999*1000+999]]";
+            String one = "[" + minus + "1]";
+            holds(most + "-" + one + "=" + less, true);
+            holds(less + "+" + one + "=" + most, true);
+            holds(less + "+" + one + "+" + one + "=" + most, true);
+            holds(most + "+" + one + "=" + most, true);
+            holds(most + "+" + one + "-" + one + "=" + less, true);
+            holds(most + "-[" + other + "1]=" + most, true);
+            holds(most + "-[" + other + "1]+[" + other + "1]=" + less, true);
+            String far = minus.isEmpty() ? "+9999+9999" : "-9999-9999";
+            holds(most + far + "-" + one + "=" + less, true);
+            holds(less + "*1=" + less, true);
+            holds(most + "*1=" + most, true);
+            holds(most + "*2=" + most, true);
+            holds(most + "*2/2=[" + minus + "500*1000]", true);
+            holds(most + "*2-" + one + "=" + less, true);
+            holds("[" + minus + "1001]*999=" + less, true);
+            holds("[" + minus + "1001]*1000=" + most, true);
+            holds(most + "*[0-1]=[" + other + "1000*1000]", true);
+            holds(most + "/[0-1]=[" + other + "1000*1000]", true);
+            holds(most + "/1=" + most, true);
+            holds(most + "/1000*1000=" + most, true);
+            holds(most + "*" + most + "=1000*1000", true);
+            holds(most + "+" + most + "-" + most + "=0", true);
+        }
+    }
+
+    /** "/ cuts towards 0, by 0 gives 0". */
+    private static void dividing() {
+        for (int a = -9; a <= 9; a++) {
+            for (int b = -4; b <= 4; b++) {
+                int c = b == 0 ? 0 : a / b;
+                holds("[0+" + inBrackets(a) + "]/" + inBrackets(b) + "=" + inBrackets(c), true);
+                holds(inBrackets(a) + "/" + inBrackets(b) + "+1=" + inBrackets(c + 1), true);
+            }
+        }
+        holds("9999/0=0", true);
+        holds("5/[3-3]=0", true);
+        holds("5/0/0=0", true);
+        holds("5*3/0+2=2", true);
+        holds("5/[1/2]=0", true);
+    }
+
+    private static String inBrackets(int n) {
+        return n < 0 ? "[0-" + -n + "]" : "" + n;
+    }
+
     private static void conditions() {
+        // A ! of each sort of truth, and of each sort of untruth.
+        for (String truth : new String[] {"1<2", "2>1", "1=1", "(1=1&2=2)", "(1=2|2=2)", "(1<2)", "!1=2", "!(1>2)"}) {
+            holds("!" + truth, false);
+            holds("!!" + truth, true);
+            holds("!!!" + truth, false);
+        }
+        for (String untruth : new String[] {"2<2", "2>2", "1=2", "(1=1&2=3)", "(1=2|2=3)", "!1<2", "!(2>1)"}) {
+            holds("!" + untruth, true);
+            holds("!!" + untruth, false);
+        }
         holds("1<2", true);
         holds("2<1", false);
         holds("1<1", false);
