@@ -88,6 +88,9 @@ final class FaultTest {
         }
         valley("lf1 2;l;k", 4);
         valley("lf-1;l;k", 2);
+        valley("lh5 ;l;k", 2);
+        valley("lh 5  f1;l;k", 3);
+        valley("l f100  ", 5);
         valley("l;l;kp13p", 7);
     }
 

@@ -22,6 +22,7 @@ final class RefusedTest {
         HeadYear x = state.get();
         now = Snapshot.now(x);
         then = Snapshot.then(x);
+        Check.due(name + ": asking changes nothing", Snapshot.then(state.get()), then);
     }
 
     public static void main(String[] args) {

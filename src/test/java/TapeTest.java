@@ -2,6 +2,7 @@
 final class TapeTest {
     public static void main(String[] args) {
         newObject();
+        aheadOfAValley();
         feed();
         end();
         Check.finish();
@@ -39,6 +40,32 @@ final class TapeTest {
         Check.due("new: advice(0, 1, 1, 0)", x.advice(0, 1, 1, 0), HeadYear.HIDDEN);
         Check.due("new: image()", x.image(), HeadYear.NONE);
         Check.due("new: back()", x.back(), HeadYear.NONE);
+    }
+
+    /** What needs no VALLEY is done without one, and holds in the first. */
+    private static void aheadOfAValley() {
+        for (int seed = 0; seed < 20; seed++) {
+            HeadYear x = new HeadYear();
+            Check.due("a law", Check.tell(x, 1, "y:b"), 0);
+            Check.due("law(0)", x.law(0), true);
+            Check.due("set(0, 100)", x.set(0, 100), true);
+            Check.due("set(1, 1)", x.set(1, 1), true);
+            Check.due("set(2, 9)", x.set(2, 9), true);
+            Check.due("seed", x.seed(seed), true);
+            Check.due("a valley", Check.tell(x, 0, "l d0;l h4 d0;k p1 b100 t0"), 1);
+            Check.due("the law holds", x.count(5), 0);
+            Check.due("PRICE", x.buy(0, 1), 9);
+            x.undo();
+            x.hush(0, true);
+            x.winters(1);
+            // Draws of the birth, the twin, the one head, the finding; then one of four empty huts.
+            long d = seed;
+            for (int i = 0; i < 5; i++) {
+                d = d * 6364136223846793005L + 1442695040888963407L;
+            }
+            Check.due("found by FIND of 100", x.family(0, 1), 1);
+            Check.due("the hut by LUCK, from the seed", x.family(0, 2), (d >>> 33) % 4);
+        }
     }
 
     private static void feed() {

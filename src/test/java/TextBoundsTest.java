@@ -78,6 +78,17 @@ final class TextBoundsTest {
                 Check.due(what + ": how many then", x.count(3), fits ? ahead + more : ahead);
             }
         }
+        for (int word = 0; word < 5; word++) {
+            for (int bit = 0; bit < 32; bit++) {
+                int[] w = new int[5];
+                w[word] = 1 << bit;
+                HeadYear x = new HeadYear();
+                Check.feed(x, " ".repeat(160));
+                Check.due("a 161st byte of one bit", x.feed(w[0], w[1], w[2], w[3], w[4]), -1);
+                x.end(159);
+                Check.due("a 160th byte of one bit", x.feed(w[0], w[1], w[2], w[3], w[4]), 160);
+            }
+        }
         HeadYear x = new HeadYear();
         Check.feed(x, " ".repeat(159));
         Check.due("one among nineteen of 0", x.feed(0, 0, 'l' << 8, 0, 0), 160);

@@ -8,6 +8,7 @@ final class TwinTest {
     private final int run;
     private final StringBuilder calls = new StringBuilder();
     private boolean wrong = false;
+    private int asked = 0;
 
     private TwinTest(int run) {
         this.run = run;
@@ -15,7 +16,7 @@ final class TwinTest {
     }
 
     public static void main(String[] args) {
-        int runs = args.length > 0 ? Integer.parseInt(args[0]) : 120;
+        int runs = args.length > 0 ? Integer.parseInt(args[0]) : 500;
         int from = args.length > 1 ? Integer.parseInt(args[1]) : 0;
         int bad = 0;
         for (int run = from; run < from + runs && bad < 5; run++) {
@@ -39,7 +40,8 @@ final class TwinTest {
             }
             setUp();
         }
-        for (int i = 0; i < 150 && !wrong; i++) {
+        // An object is used for 512 calls; one step here may make some 150 of them.
+        for (int i = 0; i < 150 && !wrong && asked < 350; i++) {
             if (texts) {
                 tell(random.nextInt(2), random.nextInt(2) == 0 ? broken(valley()) : broken(law()));
             } else if (crowded && i % 4 > 0) {
@@ -68,6 +70,7 @@ final class TwinTest {
     }
 
     private void same(String what, long got, long want) {
+        asked++;
         calls.append(what).append(" = ").append(want).append('\n');
         if (got != want && !wrong) {
             wrong = true;
@@ -77,7 +80,7 @@ final class TwinTest {
 
     private void tell(int sort, String text) {
         boolean stays = o.end(0);
-        x.end(0);
+        same("end(0)", x.end(0) ? 1 : 0, stays ? 1 : 0);
         for (int from = 0; from < text.length(); from += 20) {
             int[] w = Check.words(text, from);
             same("feed " + text, x.feed(w[0], w[1], w[2], w[3], w[4]), o.feed(w));

@@ -23,6 +23,8 @@ final class ViewBoundsTest {
         leanestOfSeveral();
         whoIsGone();
         images();
+        backIsAllAsItWas();
+        anotherValleyIsLikeAFirstOne();
         counts();
         fullest();
         fiveHundredAndTwelveCalls();
@@ -543,6 +545,61 @@ final class ViewBoundsTest {
         Check.due("no years", x.leanest(0), NONE);
     }
 
+    /** "An IMAGE keeps all of FAMILIES, YEAR, draws, DIARY; BACK: they are so again". */
+    private static void backIsAllAsItWas() {
+        for (int seed = 0; seed < 20; seed++) {
+            HeadYear[] both = new HeadYear[2];
+            for (int i = 0; i < 2; i++) {
+                HeadYear x = lawful("l d20 f9;l d10 h1;l h4 d30 f5;k b60 t30;k a1 b50 t50;k a2 p1 b40 t40", "y:2*b-d");
+                x.set(1, 1);
+                x.seed(seed);
+                x.hush(1, true);
+                x.winters(3);
+                x.buy(2, -2);
+                x.image();
+                both[i] = x;
+            }
+            both[0].buy(0, 1);
+            both[0].hush(1, false);
+            both[0].hush(2, true);
+            both[0].winters(4);
+            both[0].seed(seed + 1);
+            both[0].spring();
+            both[0].back();
+            both[1].back();
+            Check.due("behind BACK", Snapshot.now(both[0]), Snapshot.now(both[1]));
+            Check.due("behind BACK, then", Snapshot.then(both[0]), Snapshot.then(both[1]));
+        }
+    }
+
+    /** "(all that was of another one is gone but LAWS, which of them holds, FIND, LUCK, PRICE, draws)". */
+    private static void anotherValleyIsLikeAFirstOne() {
+        String[] texts = {"l;l;k", "l f1;l;l;k a2 p12;k", "l h1 s1;l h1;k;k a1"};
+        for (String text : texts) {
+            HeadYear x = lawful("lh4d9;lh4d9;l;l;l;l;l;lh4;k p12;k p12;k;k;ka7 p12;ka7;ka7;ka7;ka1;ka1 p12", "y:b-1");
+            for (int family = 0; family < 10; family++) {
+                x.hush(family, true);
+                x.buy(family, family % 2 == 0 ? 3 : -3);
+            }
+            x.winters(9);
+            x.image();
+            x.winters(2);
+            for (int family = 0; family < 10; family++) {
+                x.buy(family, 1);
+            }
+            HeadYear first = new HeadYear();
+            Check.tell(first, 1, "y:b-1");
+            first.law(0);
+            for (HeadYear each : new HeadYear[] {x, first}) {
+                Check.tell(each, 0, text);
+                each.seed(5);
+                each.winters(3);
+            }
+            Check.due("another one: " + text, Snapshot.now(x), Snapshot.now(first));
+            Check.due("another one, then: " + text, Snapshot.then(x), Snapshot.then(first));
+        }
+    }
+
     /** "0 LEVELS, 1 FAMILIES, 2 LAWS, 3 bytes of the TAPE, 4 YEARS, 5 the LAW that holds (NONE), 6 .., 7 ..; HIDDEN for others". */
     private static void counts() {
         HeadYear x = lawful("l d0;l d0;l d0;k b0;k b0", "y:0");
@@ -627,9 +684,9 @@ final class ViewBoundsTest {
     /** "An object is used for at most 512 calls": the last one answers as due, too. */
     private static void fiveHundredAndTwelveCalls() {
         HeadYear x = Check.valley("l;l;k");
-        // feed, text and count were called: three so far.
-        for (int call = 4; call <= 510; call++) {
-            Check.due("call " + call, x.buy(0, call % 2 == 0 ? 1 : -1), call < 44 ? 10 : NONE);
+        // Four calls were needed for the valley: end, count, feed, text.
+        for (int call = 5; call <= 510; call++) {
+            Check.due("call " + call, x.buy(0, call % 2 == 0 ? 1 : -1), call < 45 ? 10 : NONE);
         }
         Check.due("call 511", x.undo(), 0);
         Check.due("call 512", x.count(6), 39);
